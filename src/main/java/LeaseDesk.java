@@ -304,7 +304,7 @@ public final class LeaseDesk {
     private void settle() {
         noteHeldItems();
         // A round that withdraws may free a target of what went, and each such round takes one item or more.
-        for (int round = 0; round <= ITEMS; round++) {
+        for (int round = 0; round < ITEMS; round++) {
             if (!withdrawOnce()) {
                 return;
             }
@@ -476,7 +476,6 @@ public final class LeaseDesk {
             held = 0;
         }
 
-        @Override
         Reply performOwn(int method, int a, int b, int depth) {
             switch (method) {
                 case GET:
@@ -518,7 +517,6 @@ public final class LeaseDesk {
             cells = new int[CELLS];
         }
 
-        @Override
         Reply performOwn(int method, int a, int b, int depth) {
             if (method == DIV || method == USE) {
                 return Reply.failed(NO_METHOD);
@@ -564,12 +562,10 @@ public final class LeaseDesk {
             uses = 0;
         }
 
-        @Override
         Item target() {
             return aim;
         }
 
-        @Override
         Reply performOwn(int method, int a, int b, int depth) {
             switch (method) {
                 case GET:
@@ -628,7 +624,6 @@ public final class LeaseDesk {
             closings = 0;
         }
 
-        @Override
         Reply performOwn(int method, int a, int b, int depth) {
             switch (method) {
                 case GET:
