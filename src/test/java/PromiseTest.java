@@ -1,94 +1,22 @@
 /** For each promise of the document: ordinary inputs, the edges that it names, and wrong inputs. */
-public final class PromiseTest {
-    private static final int COUNTER = 0;
-    private static final int VAULT = 1;
-    private static final int CHAIN = 2;
-    private static final int BRACKET = 3;
-
-    private static final int GET = 0;
-    private static final int PUT = 1;
-    private static final int ADD = 2;
-    private static final int DIV = 3;
-    private static final int USE = 4;
-    private static final int WAKE = 5;
-
-    private static final int ARITHMETIC = 1;
-    private static final int INDEX = 2;
-    private static final int NULL = 3;
-    private static final int SHORT = 4;
-    private static final int FORWARD = 5;
-    private static final int DEEP = 6;
-    private static final int BODY = 7;
-    private static final int CLOSE = 8;
-    private static final int NO_METHOD = 9;
-    private static final int MONITOR = 10;
-
-    private static final int LEAST = Integer.MIN_VALUE;
-    private static final int MOST = Integer.MAX_VALUE;
-    private static final long NONE_SUCH = -5000000000L;
-
-    private static int wrong = 0;
-    private static int looked = 0;
-    private static String part = "";
-
-    private static void due(String what, long got, long want) {
-        looked++;
-        if (got != want) {
-            wrong++;
-            System.out.println(part + ": " + what + " answered " + got + ", due is " + want);
-        }
-    }
-
-    private static long ab(int a, int b) {
-        return ((long) a << 32) | (b & 0xFFFFFFFFL);
-    }
-
-    /** A desk with one object of each kind given, all leased by peer 0 with sequence 1 till 50. */
-    private static LeaseDesk deskWith(int... kinds) {
-        LeaseDesk desk = new LeaseDesk();
-        for (int i = 0; i < kinds.length; i++) {
-            due("export", desk.export(kinds[i]), i);
-            due("lease", desk.lease(0, i, 1, 50), 50);
-        }
-        return desk;
-    }
-
-    private static void gives(LeaseDesk desk, int object, int method, int a, int b, int want) {
-        String told = "call(0, " + object + ", " + method + ", a " + a + ", b " + b + ")";
-        due(told, desk.call(0, object, method, ab(a, b)), LeaseDesk.DONE);
-        due("value after " + told, desk.value(), want);
-        due("failure(0, 0) after " + told, desk.failure(0, 0), LeaseDesk.REFUSED);
-    }
-
-    private static void fails(LeaseDesk desk, int object, int method, int a, int b, int... classesAndMessages) {
-        String told = "call(0, " + object + ", " + method + ", a " + a + ", b " + b + ")";
-        due(told, desk.call(0, object, method, ab(a, b)), LeaseDesk.FAILED);
-        due("value after " + told, desk.value(), 0);
-        int size = classesAndMessages.length / 2;
-        for (int k = 0; k < size; k++) {
-            due("class " + k + " after " + told, desk.failure(k, 0), classesAndMessages[2 * k]);
-            due("message " + k + " after " + told, desk.failure(k, 1), classesAndMessages[2 * k + 1]);
-        }
-        due("class " + size + " after " + told, desk.failure(size, 0), LeaseDesk.REFUSED);
-    }
-
+public final class PromiseTest extends Checks {
     private static void newObject() {
         LeaseDesk desk = new LeaseDesk();
         for (int object = 0; object < 10; object++) {
-            due("kind", desk.object(object, 0), LeaseDesk.REFUSED);
+            due("kind", desk.object(object, 0), REFUSED);
             for (int what = 1; what <= 5; what++) {
                 due("what " + what, desk.object(object, what), 0);
             }
         }
         for (int name = 0; name < 6; name++) {
-            due("lookup", desk.lookup(name), LeaseDesk.REFUSED);
+            due("lookup", desk.lookup(name), REFUSED);
         }
         for (int what = 0; what < 4; what++) {
             due("count " + what, desk.count(what), 0);
         }
         due("value", desk.value(), 0);
-        due("failure", desk.failure(0, 0), LeaseDesk.REFUSED);
-        due("suppressed", desk.suppressed(0, 0), LeaseDesk.REFUSED);
+        due("failure", desk.failure(0, 0), REFUSED);
+        due("suppressed", desk.suppressed(0, 0), REFUSED);
         due("suppressedMessage", desk.suppressedMessage(0, 0), NONE_SUCH);
         LeaseDesk other = new LeaseDesk();
         due("export", desk.export(VAULT), 0);
@@ -97,15 +25,15 @@ public final class PromiseTest {
 
     private static void export() {
         LeaseDesk desk = new LeaseDesk();
-        due("export(-1)", desk.export(-1), LeaseDesk.REFUSED);
-        due("export(4)", desk.export(4), LeaseDesk.REFUSED);
-        due("export(least)", desk.export(LEAST), LeaseDesk.REFUSED);
+        due("export(-1)", desk.export(-1), REFUSED);
+        due("export(4)", desk.export(4), REFUSED);
+        due("export(least)", desk.export(LEAST), REFUSED);
         for (int number = 0; number < 10; number++) {
             due("export", desk.export(number % 4), number);
             due("kind", desk.object(number, 0), number % 4);
         }
-        due("export when full", desk.export(COUNTER), LeaseDesk.FULL);
-        due("wrong kind when full", desk.export(4), LeaseDesk.REFUSED);
+        due("export when full", desk.export(COUNTER), FULL);
+        due("wrong kind when full", desk.export(4), REFUSED);
         due("count", desk.count(1), 10);
         due("never held is not withdrawn", desk.tick(60), 0);
         due("count", desk.count(1), 10);
@@ -116,9 +44,9 @@ public final class PromiseTest {
         due("count", desk.count(1), 8);
         due("least free number", desk.export(VAULT), 3);
         due("next free number", desk.export(CHAIN), 7);
-        due("full again", desk.export(CHAIN), LeaseDesk.FULL);
+        due("full again", desk.export(CHAIN), FULL);
         due("the sequence is 0 again", desk.lease(1, 3, 1, 1), 61);
-        due("a new vault", desk.call(1, 3, GET, ab(0, 0)), LeaseDesk.DONE);
+        due("a new vault", desk.call(1, 3, GET, ab(0, 0)), DONE);
     }
 
     private static void exportMakesAnew() {
@@ -142,47 +70,47 @@ public final class PromiseTest {
 
     private static void lease() {
         LeaseDesk desk = new LeaseDesk();
-        due("not there", desk.lease(0, 0, 1, 1), LeaseDesk.GONE);
-        due("numbers come first", desk.lease(0, 0, 1, 0), LeaseDesk.REFUSED);
+        due("not there", desk.lease(0, 0, 1, 1), GONE);
+        due("numbers come first", desk.lease(0, 0, 1, 0), REFUSED);
         due("export", desk.export(COUNTER), 0);
-        due("peer -1", desk.lease(-1, 0, 1, 1), LeaseDesk.REFUSED);
-        due("peer 3", desk.lease(3, 0, 1, 1), LeaseDesk.REFUSED);
-        due("object -1", desk.lease(0, -1, 1, 1), LeaseDesk.REFUSED);
-        due("object 10", desk.lease(0, 10, 1, 1), LeaseDesk.REFUSED);
-        due("duration 0", desk.lease(0, 0, 1, 0), LeaseDesk.REFUSED);
-        due("duration 51", desk.lease(0, 0, 1, 51), LeaseDesk.REFUSED);
-        due("sequence 0", desk.lease(0, 0, 0, 1), LeaseDesk.REFUSED);
-        due("sequence least", desk.lease(0, 0, LEAST, 1), LeaseDesk.REFUSED);
+        due("peer -1", desk.lease(-1, 0, 1, 1), REFUSED);
+        due("peer 3", desk.lease(3, 0, 1, 1), REFUSED);
+        due("object -1", desk.lease(0, -1, 1, 1), REFUSED);
+        due("object 10", desk.lease(0, 10, 1, 1), REFUSED);
+        due("duration 0", desk.lease(0, 0, 1, 0), REFUSED);
+        due("duration 51", desk.lease(0, 0, 1, 51), REFUSED);
+        due("sequence 0", desk.lease(0, 0, 0, 1), REFUSED);
+        due("sequence least", desk.lease(0, 0, LEAST, 1), REFUSED);
         due("nothing changed", desk.object(0, 1), 0);
         due("tick", desk.tick(7), 0);
         due("duration 50", desk.lease(0, 0, 1, 50), 57);
-        due("the same sequence", desk.lease(0, 0, 1, 1), LeaseDesk.REFUSED);
+        due("the same sequence", desk.lease(0, 0, 1, 1), REFUSED);
         due("another peer's sequence", desk.lease(2, 0, 1, 1), 8);
         due("a shorter lease", desk.lease(0, 0, 5, 3), 10);
-        due("a sequence between", desk.lease(0, 0, 4, 3), LeaseDesk.REFUSED);
+        due("a sequence between", desk.lease(0, 0, 4, 3), REFUSED);
         due("peer 0", desk.object(0, 2), 10);
         due("peer 1", desk.object(0, 3), 0);
         due("peer 2", desk.object(0, 4), 8);
         due("held", desk.object(0, 1), 1);
         due("the most", desk.lease(0, 0, MOST, 1), 8);
-        due("nothing is above", desk.lease(0, 0, MOST, 1), LeaseDesk.REFUSED);
+        due("nothing is above", desk.lease(0, 0, MOST, 1), REFUSED);
     }
 
     private static void release() {
         LeaseDesk desk = new LeaseDesk();
-        due("not there", desk.release(0, 0, 1), LeaseDesk.GONE);
-        due("peer -1", desk.release(-1, 0, 1), LeaseDesk.REFUSED);
-        due("peer 3", desk.release(3, 0, 1), LeaseDesk.REFUSED);
-        due("object -1", desk.release(0, -1, 1), LeaseDesk.REFUSED);
-        due("object 10", desk.release(0, 10, 1), LeaseDesk.REFUSED);
+        due("not there", desk.release(0, 0, 1), GONE);
+        due("peer -1", desk.release(-1, 0, 1), REFUSED);
+        due("peer 3", desk.release(3, 0, 1), REFUSED);
+        due("object -1", desk.release(0, -1, 1), REFUSED);
+        due("object 10", desk.release(0, 10, 1), REFUSED);
         due("export", desk.export(BRACKET), 0);
-        due("sequence 0", desk.release(0, 0, 0), LeaseDesk.REFUSED);
+        due("sequence 0", desk.release(0, 0, 0), REFUSED);
         due("it had none", desk.release(0, 0, 4), 0);
         due("never held stays", desk.count(1), 1);
-        due("the sequence counts for lease", desk.lease(0, 0, 4, 9), LeaseDesk.REFUSED);
+        due("the sequence counts for lease", desk.lease(0, 0, 4, 9), REFUSED);
         due("lease", desk.lease(0, 0, 5, 9), 9);
         due("lease of another", desk.lease(1, 0, 1, 9), 9);
-        due("the same sequence", desk.release(0, 0, 5), LeaseDesk.REFUSED);
+        due("the same sequence", desk.release(0, 0, 5), REFUSED);
         due("the lease stands", desk.object(0, 2), 9);
         due("it had one", desk.release(0, 0, 6), 1);
         due("the lease is gone", desk.object(0, 2), 0);
@@ -190,13 +118,13 @@ public final class PromiseTest {
         due("it has none", desk.release(0, 0, 7), 0);
         due("the last", desk.release(1, 0, 2), 1);
         due("withdrawn", desk.count(2), 1);
-        due("gone", desk.release(1, 0, 3), LeaseDesk.GONE);
+        due("gone", desk.release(1, 0, 3), GONE);
     }
 
     private static void tick() {
         LeaseDesk desk = new LeaseDesk();
-        due("tick(-1)", desk.tick(-1), LeaseDesk.REFUSED);
-        due("tick(61)", desk.tick(61), LeaseDesk.REFUSED);
+        due("tick(-1)", desk.tick(-1), REFUSED);
+        due("tick(61)", desk.tick(61), REFUSED);
         due("time", desk.count(0), 0);
         due("tick(0)", desk.tick(0), 0);
         due("tick(60)", desk.tick(60), 0);
@@ -210,7 +138,7 @@ public final class PromiseTest {
         due("two end at their time", desk.tick(1), 2);
         due("peer 0", desk.object(0, 2), 0);
         due("peer 1", desk.object(0, 3), 66);
-        due("one is withdrawn", desk.object(1, 0), LeaseDesk.REFUSED);
+        due("one is withdrawn", desk.object(1, 0), REFUSED);
         due("tick(0)", desk.tick(0), 0);
         due("one ends late", desk.tick(60), 1);
         due("time", desk.count(0), 125);
@@ -219,56 +147,56 @@ public final class PromiseTest {
 
     private static void bind() {
         LeaseDesk desk = new LeaseDesk();
-        due("not there", desk.bind(0, 0, false), LeaseDesk.GONE);
-        due("name -1", desk.bind(-1, 0, true), LeaseDesk.REFUSED);
-        due("name 6", desk.bind(6, 0, true), LeaseDesk.REFUSED);
-        due("object -1", desk.bind(0, -1, true), LeaseDesk.REFUSED);
-        due("object 10", desk.bind(0, 10, true), LeaseDesk.REFUSED);
+        due("not there", desk.bind(0, 0, false), GONE);
+        due("name -1", desk.bind(-1, 0, true), REFUSED);
+        due("name 6", desk.bind(6, 0, true), REFUSED);
+        due("object -1", desk.bind(0, -1, true), REFUSED);
+        due("object 10", desk.bind(0, 10, true), REFUSED);
         due("export", desk.export(COUNTER), 0);
         due("export", desk.export(VAULT), 1);
-        due("bind", desk.bind(0, 0, false), LeaseDesk.DONE);
-        due("bind the last name", desk.bind(5, 0, true), LeaseDesk.DONE);
+        due("bind", desk.bind(0, 0, false), DONE);
+        due("bind the last name", desk.bind(5, 0, true), DONE);
         due("names", desk.object(0, 5), 2);
         due("held", desk.object(0, 1), 1);
-        due("bound", desk.bind(0, 1, false), LeaseDesk.REFUSED);
-        due("bound, not there", desk.bind(0, 2, false), LeaseDesk.GONE);
-        due("bound over, not there", desk.bind(0, 2, true), LeaseDesk.GONE);
+        due("bound", desk.bind(0, 1, false), REFUSED);
+        due("bound, not there", desk.bind(0, 2, false), GONE);
+        due("bound over, not there", desk.bind(0, 2, true), GONE);
         due("still", desk.lookup(0), 0);
-        due("over", desk.bind(0, 1, true), LeaseDesk.DONE);
+        due("over", desk.bind(0, 1, true), DONE);
         due("now", desk.lookup(0), 1);
         due("names", desk.object(0, 5), 1);
         due("both there", desk.count(1), 2);
-        due("over itself", desk.bind(5, 0, true), LeaseDesk.DONE);
+        due("over itself", desk.bind(5, 0, true), DONE);
         due("both there", desk.count(1), 2);
-        due("over the last name", desk.bind(5, 1, true), LeaseDesk.DONE);
+        due("over the last name", desk.bind(5, 1, true), DONE);
         due("one there", desk.count(1), 1);
         due("withdrawn", desk.count(2), 1);
-        due("gone", desk.object(0, 0), LeaseDesk.REFUSED);
+        due("gone", desk.object(0, 0), REFUSED);
     }
 
     private static void unbindAndLookup() {
         LeaseDesk desk = new LeaseDesk();
-        due("unbind(-1)", desk.unbind(-1), LeaseDesk.REFUSED);
-        due("unbind(6)", desk.unbind(6), LeaseDesk.REFUSED);
-        due("lookup(-1)", desk.lookup(-1), LeaseDesk.REFUSED);
-        due("lookup(6)", desk.lookup(6), LeaseDesk.REFUSED);
-        due("not bound", desk.unbind(2), LeaseDesk.REFUSED);
+        due("unbind(-1)", desk.unbind(-1), REFUSED);
+        due("unbind(6)", desk.unbind(6), REFUSED);
+        due("lookup(-1)", desk.lookup(-1), REFUSED);
+        due("lookup(6)", desk.lookup(6), REFUSED);
+        due("not bound", desk.unbind(2), REFUSED);
         for (int number = 0; number < 10; number++) {
             due("export", desk.export(COUNTER), number);
         }
         for (int name = 0; name < 6; name++) {
-            due("bind", desk.bind(name, 9 - name, false), LeaseDesk.DONE);
+            due("bind", desk.bind(name, 9 - name, false), DONE);
         }
         for (int name = 0; name < 6; name++) {
             due("lookup", desk.lookup(name), 9 - name);
         }
-        due("bind", desk.bind(0, 8, true), LeaseDesk.DONE);
-        due("unbind one of two names", desk.unbind(1), LeaseDesk.DONE);
+        due("bind", desk.bind(0, 8, true), DONE);
+        due("unbind one of two names", desk.unbind(1), DONE);
         due("it stays", desk.object(8, 0), COUNTER);
-        due("lookup", desk.lookup(1), LeaseDesk.REFUSED);
-        due("unbind again", desk.unbind(1), LeaseDesk.REFUSED);
-        due("unbind the other", desk.unbind(0), LeaseDesk.DONE);
-        due("it is gone", desk.object(8, 0), LeaseDesk.REFUSED);
+        due("lookup", desk.lookup(1), REFUSED);
+        due("unbind again", desk.unbind(1), REFUSED);
+        due("unbind the other", desk.unbind(0), DONE);
+        due("it is gone", desk.object(8, 0), REFUSED);
         due("withdrawn", desk.count(2), 2);
     }
 
@@ -276,20 +204,20 @@ public final class PromiseTest {
         LeaseDesk desk = deskWith(COUNTER);
         gives(desk, 0, PUT, 3, 0, 0);
         gives(desk, 0, GET, 0, 0, 3);
-        due("peer -1", desk.call(-1, 0, GET, 0), LeaseDesk.REFUSED);
-        due("peer 3", desk.call(3, 0, GET, 0), LeaseDesk.REFUSED);
-        due("object -1", desk.call(0, -1, GET, 0), LeaseDesk.REFUSED);
-        due("object 10", desk.call(0, 10, GET, 0), LeaseDesk.REFUSED);
-        due("method -1", desk.call(0, 0, -1, 0), LeaseDesk.REFUSED);
-        due("method 6", desk.call(0, 0, 6, 0), LeaseDesk.REFUSED);
-        due("numbers come first", desk.call(1, 5, 6, 0), LeaseDesk.REFUSED);
-        due("no lease", desk.call(1, 0, PUT, ab(8, 0)), LeaseDesk.GONE);
-        due("not there", desk.call(0, 1, GET, 0), LeaseDesk.GONE);
+        due("peer -1", desk.call(-1, 0, GET, 0), REFUSED);
+        due("peer 3", desk.call(3, 0, GET, 0), REFUSED);
+        due("object -1", desk.call(0, -1, GET, 0), REFUSED);
+        due("object 10", desk.call(0, 10, GET, 0), REFUSED);
+        due("method -1", desk.call(0, 0, -1, 0), REFUSED);
+        due("method 6", desk.call(0, 0, 6, 0), REFUSED);
+        due("numbers come first", desk.call(1, 5, 6, 0), REFUSED);
+        due("no lease", desk.call(1, 0, PUT, ab(8, 0)), GONE);
+        due("not there", desk.call(0, 1, GET, 0), GONE);
         due("the outcome stays", desk.value(), 3);
         gives(desk, 0, GET, 0, 0, 3);
         fails(desk, 0, USE, 0, 0, NO_METHOD, 0);
-        due("no lease", desk.call(2, 0, GET, 0), LeaseDesk.GONE);
-        due("refused", desk.call(0, 0, 6, 0), LeaseDesk.REFUSED);
+        due("no lease", desk.call(2, 0, GET, 0), GONE);
+        due("refused", desk.call(0, 0, 6, 0), REFUSED);
         due("the outcome stays", desk.failure(0, 0), NO_METHOD);
         due("failed calls", desk.count(3), 1);
     }
@@ -375,17 +303,6 @@ public final class PromiseTest {
         fails(desk, 0, DIV, 0, 0, NO_METHOD, 0);
         gives(desk, 0, GET, 0, 0, 18);
         wake(desk);
-    }
-
-    private static void suppressedAre(LeaseDesk desk, int k, int... messages) {
-        int size = messages.length;
-        due("how many suppressed", desk.failure(k, 2), size);
-        for (int j = 0; j < size; j++) {
-            due("suppressed " + j, desk.suppressed(k, j), CLOSE);
-            due("suppressedMessage " + j, desk.suppressedMessage(k, j), messages[j]);
-        }
-        due("suppressed " + size, desk.suppressed(k, size), LeaseDesk.REFUSED);
-        due("suppressedMessage " + size, desk.suppressedMessage(k, size), NONE_SUCH);
     }
 
     private static void wake(LeaseDesk desk) {
@@ -494,26 +411,26 @@ public final class PromiseTest {
         LeaseDesk desk = deskWith(BRACKET, CHAIN);
         gives(desk, 1, PUT, 0, 0, 0);
         gives(desk, 0, USE, 0, LEAST, LEAST);
-        due("no failure of a value", desk.failure(0, 1), LeaseDesk.REFUSED);
-        due("none suppressed", desk.suppressed(0, 0), LeaseDesk.REFUSED);
+        due("no failure of a value", desk.failure(0, 1), REFUSED);
+        due("none suppressed", desk.suppressed(0, 0), REFUSED);
         due("none suppressed", desk.suppressedMessage(0, 0), NONE_SUCH);
         fails(desk, 1, DIV, 7, -1, FORWARD, 3, BODY, -1);
         due("value", desk.value(), 0);
         for (int k : new int[] {-1, 2, LEAST, MOST}) {
             for (int what = 0; what < 3; what++) {
-                due("failure " + k, desk.failure(k, what), LeaseDesk.REFUSED);
+                due("failure " + k, desk.failure(k, what), REFUSED);
             }
-            due("suppressed " + k, desk.suppressed(k, 0), LeaseDesk.REFUSED);
+            due("suppressed " + k, desk.suppressed(k, 0), REFUSED);
             due("suppressedMessage " + k, desk.suppressedMessage(k, 0), NONE_SUCH);
         }
         for (int j : new int[] {-1, 2, LEAST, MOST}) {
-            due("what " + j, desk.failure(1, j == 2 ? 3 : j), LeaseDesk.REFUSED);
-            due("suppressed " + j, desk.suppressed(1, j), LeaseDesk.REFUSED);
+            due("what " + j, desk.failure(1, j == 2 ? 3 : j), REFUSED);
+            due("suppressed " + j, desk.suppressed(1, j), REFUSED);
             due("suppressedMessage " + j, desk.suppressedMessage(1, j), NONE_SUCH);
         }
         gives(desk, 0, GET, 0, 0, 4);
-        due("the failure is over", desk.failure(1, 0), LeaseDesk.REFUSED);
-        due("its suppressed ones too", desk.suppressed(1, 0), LeaseDesk.REFUSED);
+        due("the failure is over", desk.failure(1, 0), REFUSED);
+        due("its suppressed ones too", desk.suppressed(1, 0), REFUSED);
     }
 
     private static void outcomeOutlivesItsObject() {
@@ -521,7 +438,7 @@ public final class PromiseTest {
         fails(desk, 0, USE, 3, 4, BODY, 4);
         due("tick", desk.tick(50), 1);
         due("withdrawn", desk.count(1), 0);
-        due("gone", desk.call(0, 0, GET, 0), LeaseDesk.GONE);
+        due("gone", desk.call(0, 0, GET, 0), GONE);
         due("message", desk.failure(0, 1), 4);
         suppressedAre(desk, 0, 2);
     }
@@ -534,12 +451,12 @@ public final class PromiseTest {
         due("peer 0", desk.object(0, 2), 50);
         due("peer 1", desk.object(0, 3), 0);
         due("peer 2", desk.object(0, 4), 8);
-        due("object -1", desk.object(-1, 1), LeaseDesk.REFUSED);
-        due("object 10", desk.object(10, 1), LeaseDesk.REFUSED);
+        due("object -1", desk.object(-1, 1), REFUSED);
+        due("object 10", desk.object(10, 1), REFUSED);
         for (int what : new int[] {-1, 6, LEAST, MOST}) {
-            due("what " + what, desk.object(0, what), LeaseDesk.REFUSED);
-            due("what of none there " + what, desk.object(5, what), LeaseDesk.REFUSED);
-            due("count " + what, desk.count(what == 6 ? 4 : what), LeaseDesk.REFUSED);
+            due("what " + what, desk.object(0, what), REFUSED);
+            due("what of none there " + what, desk.object(5, what), REFUSED);
+            due("count " + what, desk.count(what == 6 ? 4 : what), REFUSED);
         }
         due("export", desk.export(COUNTER), 2);
         due("not held", desk.object(2, 1), 0);
@@ -574,7 +491,7 @@ public final class PromiseTest {
         due("withdrawn", desk.count(2), 3);
         due("export", desk.export(VAULT), 1);
         gives(desk, 4, PUT, 1, 0, 0);
-        due("a target left behind", desk.object(0, 0), LeaseDesk.REFUSED);
+        due("a target left behind", desk.object(0, 0), REFUSED);
         gives(desk, 4, PUT, 1, 0, 0);
         due("the same target stays", desk.object(1, 0), VAULT);
         gives(desk, 4, PUT, 4, 0, 0);
@@ -589,7 +506,7 @@ public final class PromiseTest {
         gives(desk, 1, PUT, 0, 0, 0);
         due("tick", desk.tick(50), 3);
         due("the ring stays", desk.count(1), 2);
-        due("sequences stay", desk.lease(0, 0, 1, 5), LeaseDesk.REFUSED);
+        due("sequences stay", desk.lease(0, 0, 1, 5), REFUSED);
         due("lease", desk.lease(0, 0, 2, 5), 55);
         gives(desk, 0, PUT, 2, 0, 0);
         due("cut, and its other half is gone", desk.count(1), 1);
@@ -635,9 +552,6 @@ public final class PromiseTest {
 
     public static void main(String[] args) {
         allPromises();
-        System.out.println(wrong + " of " + looked + " answers are not as due");
-        if (wrong != 0) {
-            System.exit(1);
-        }
+        end();
     }
 }
