@@ -357,18 +357,22 @@ public final class LeaseDesk {
         final int type;
         final int message;
         final Fault cause;
-        final Fault[] added;
+        // Few failures have any added: the row is made for the first one.
+        private Fault[] added;
         int addedSize;
 
         Fault(int type, int message, Fault cause) {
             this.type = type;
             this.message = message;
             this.cause = cause;
-            added = new Fault[MOST_ADDED];
+            added = null;
             addedSize = 0;
         }
 
         void addFault(Fault later) {
+            if (added == null) {
+                added = new Fault[MOST_ADDED];
+            }
             if (addedSize < MOST_ADDED) {
                 added[addedSize] = later;
                 addedSize++;
@@ -376,7 +380,7 @@ public final class LeaseDesk {
         }
 
         Fault addedAt(int j) {
-            return j >= 0 && j < addedSize ? added[j] : null;
+            return added != null && j >= 0 && j < addedSize ? added[j] : null;
         }
     }
 

@@ -2,6 +2,17 @@
 public final class MethodsTest extends Checks {
     private static final int[] NO_CELLS = {-1, 4, LEAST, MOST};
 
+    @Says("METHODS: 0 get, 1 put, 2 add, 3 div, 4 use, 5 wake")
+    private static void methodsHaveTheirNumbers() {
+        LeaseDesk desk = deskWith(COUNTER, BRACKET);
+        gives(desk, 0, 1, 12, 0, 0);
+        gives(desk, 0, 0, 5, 0, 12);
+        gives(desk, 0, 2, 5, 0, 17);
+        gives(desk, 0, 3, 5, 0, 3);
+        gives(desk, 1, 4, 8, 5, 13);
+        gives(desk, 0, 5, 5, 6, 6);
+    }
+
     @Says("Classes: 1 ARITHMETIC, 2 INDEX, 3 NULL, 4 SHORT, 5 FORWARD, 6 DEEP, 7 BODY, 8 CLOSE, 9 NO_METHOD, 10 MONITOR.")
     private static void classesHaveTheirNumbers() {
         LeaseDesk desk = deskWith(COUNTER, VAULT, CHAIN, BRACKET);
